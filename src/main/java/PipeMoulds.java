@@ -76,7 +76,7 @@ public final class PipeMoulds {
         requireIndex(works.moulds.hasRow(mould));
         int before = works.moulds.at(mould, STOPPER);
         requireState(before != TIGHTEST && works.coins >= REFIT_COINS);
-        works.coins -= REFIT_COINS;
+        works.pay(REFIT_COINS);
         works.moulds.put(mould, STOPPER, TIGHTEST);
         return before;
     }
@@ -102,7 +102,7 @@ public final class PipeMoulds {
         requireArgument(isWithin(many, 1, MOST_BOUGHT));
         int price = what == CLAY ? (many + 3) / 4 : many;
         requireState(works.coins >= price);
-        works.coins -= price;
+        works.pay(price);
         return what == CLAY ? works.addClay(many) : works.addCoals(many);
     }
 
@@ -410,6 +410,10 @@ public final class PipeMoulds {
             orders.put(place, DAYS_LEFT, days);
             orders.put(place, PAYS, pays);
             return orders.size();
+        }
+
+        void pay(int price) {
+            coins -= price;
         }
 
         int addClay(int pounds) {

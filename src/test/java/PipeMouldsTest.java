@@ -595,6 +595,7 @@ public final class PipeMouldsTest {
         due("fire(12)", 7, () -> x.fire(12));
         due("store(4)", 5, () -> x.store(4));
         due("store(24)", 2, () -> x.store(24));
+        due("all of the store", 7, () -> x.count(8));
         due("store(5)", 0, () -> x.store(5));
         due("store(23)", 0, () -> x.store(23));
         fails("store(3)", INDEX, x, () -> x.store(3));
@@ -855,6 +856,18 @@ public final class PipeMouldsTest {
         z.pack(0, 2, 4);
         due("breaks(2, 17), with no share", 0, () -> z.breaks(2, 17));
         due("breaks(2, 16), 2 of a hundred of 4", 1, () -> z.breaks(2, 16));
+        PipeMoulds v = works(1, 9, 9);
+        v.pass(6);
+        v.pack(0, 2, 1);
+        due("breaks(2, 10), 1 of a hundred of 1", 1, () -> v.breaks(2, 10));
+        due("breaks(2, 9), 1 of a hundred of 1", 1, () -> v.breaks(2, 9));
+        for (int saggar : new int[] {0, 5}) {
+            PipeMoulds w = works(9, 8, 6);
+            w.pass(6);
+            w.pack(0, saggar, 9);
+            due("5 more, not 6: 6 + 5 of 9", 1, () -> w.breaks(saggar, 9));
+            due("5 more, not 4: 6 + 12 + 5 of 9", 3, () -> w.breaks(saggar, 15));
+        }
     }
 
     private static void promise20Advise() {
@@ -896,6 +909,13 @@ public final class PipeMouldsTest {
         int want = best;
         due("advise(), for both", want, () -> y.advise());
         due("advise(), for both: 2 break with 7, 12 and 17", 7, () -> y.advise());
+
+        PipeMoulds v = works(9, 4, 3);
+        v.pass(6);
+        v.pack(0, 1, 9);
+        due("of 1 coal: 24 of 9", 3, () -> v.breaks(1, 1));
+        due("of 2 coals: 22 of 9", 2, () -> v.breaks(1, 2));
+        due("advise(), 12 to 22 of 9 from 2 coals on", 2, () -> v.advise());
 
         PipeMoulds z = works(1, 24, 9);
         z.pass(1);
@@ -977,6 +997,9 @@ public final class PipeMouldsTest {
                 what -> y.foresee(40, what));
         due("nothing is changed", before, () -> y.digest());
         due("foresee(1, 4) behind longer ones", 21, () -> y.foresee(1, 4));
+        y.fire(1);
+        due("foresee(2, 5), as many as broke till now", y.count(5), () -> y.foresee(2, 5));
+        due("56 of a hundred of 3", 2, () -> y.count(5));
     }
 
     private static void promise23Mean() {

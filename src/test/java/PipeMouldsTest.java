@@ -886,6 +886,14 @@ public final class PipeMouldsTest {
         x.pack(5, 1, 1);
         due("advise(), always one", 1, () -> x.advise());
 
+        for (int saggar = 0; saggar < 6; saggar++) {
+            PipeMoulds w = works(9, 24, 9);
+            w.pass(6);
+            w.pack(0, saggar, 9);
+            int want = saggar == 0 || saggar == 5 ? 14 : 17;
+            due("advise() for saggar " + saggar, want, () -> w.advise());
+        }
+
         PipeMoulds y = works(9, 4, 9);
         y.mould(24, 9);
         y.maker(9);

@@ -7,8 +7,9 @@ import java.util.Random;
  * from the document by itself: every answer, every exception and the digest behind each call must agree.
  */
 public final class PipeMouldsModelTest {
-    private static final int RUNS = 1000;
-    private static final int CALLS = 512;
+    private static final int RUNS = 2000;
+    // The digest is asked behind each of them, so these are all the 512 calls that an object is used for.
+    private static final int CALLS = 256;
     private static final String[] NAMES = {"mould", "refit", "maker", "place", "buy", "setDry", "pack", "fire",
         "order", "about", "told", "batch", "saggar", "store", "waits", "count", "pass", "breaks", "advise",
         "ready", "foresee", "mean", "digest"};

@@ -4,20 +4,9 @@ import java.lang.reflect.Method;
 import java.lang.reflect.Modifier;
 import java.util.Arrays;
 import java.util.TreeSet;
-import java.util.function.DoubleSupplier;
-import java.util.function.LongSupplier;
 
 /** For each promise of the document: ordinary inputs, the edges that it names, and wrong inputs. */
-public final class PipeMouldsTest {
-    private static final Class<?> INDEX = IndexOutOfBoundsException.class;
-    private static final Class<?> ARGUMENT = IllegalArgumentException.class;
-    private static final Class<?> STATE = IllegalStateException.class;
-    private static final int[] FAR = {Integer.MIN_VALUE, -1000, 1000, Integer.MAX_VALUE};
-
-    private static String part = "";
-    private static int checks = 0;
-    private static int wrong = 0;
-
+public final class PipeMouldsTest extends Checks {
     public static void main(String[] args) {
         face();
         promise01NewObject();
@@ -47,89 +36,7 @@ public final class PipeMouldsTest {
         promise22Foresee();
         promise23Mean();
         promise24Digest();
-        System.out.println(checks + " checks, " + wrong + " wrong");
-        if (wrong != 0) {
-            System.exit(1);
-        }
-    }
-
-    // ---- how it is checked
-
-    private static void due(String call, long want, LongSupplier got) {
-        checks++;
-        String answer;
-        try {
-            answer = Long.toString(got.getAsLong());
-        } catch (RuntimeException e) {
-            answer = "throws " + e.getClass().getName();
-        }
-        if (!answer.equals(Long.toString(want))) {
-            tell(call, answer, Long.toString(want));
-        }
-    }
-
-    private static void dueDouble(String call, double want, DoubleSupplier got) {
-        checks++;
-        double answer = got.getAsDouble();
-        if (answer != want) {
-            tell(call, Double.toString(answer), Double.toString(want));
-        }
-    }
-
-    /** The call throws just this, and changes nothing. */
-    private static void fails(String call, Class<?> want, PipeMoulds x, LongSupplier got) {
-        checks++;
-        long before = x.digest();
-        String answer;
-        try {
-            answer = Long.toString(got.getAsLong());
-        } catch (RuntimeException e) {
-            answer = e.getClass().getName();
-        }
-        if (!answer.equals(want.getName())) {
-            tell(call, answer, want.getName());
-        }
-        if (x.digest() != before) {
-            tell(call, "changes something", "changes nothing");
-        }
-    }
-
-    private static void tell(String call, String got, String want) {
-        wrong++;
-        System.out.println(part + ": " + call + " answered " + got + ", due is " + want);
-    }
-
-    private static void row(String call, int[] want, java.util.function.IntToLongFunction got) {
-        for (int what = 0; what < want.length; what++) {
-            int of = what;
-            due(call + " " + what, want[what], () -> got.applyAsLong(of));
-        }
-    }
-
-    /** A maker of this skill at a new mould. */
-    private static PipeMoulds works(int skill, int length, int stopper) {
-        PipeMoulds x = new PipeMoulds();
-        x.mould(length, stopper);
-        x.maker(skill);
-        x.place(0, 0);
-        return x;
-    }
-
-    private static void noDrying(PipeMoulds x) {
-        for (int day = 0; day < 7; day++) {
-            x.setDry(day, 0);
-        }
-    }
-
-    /** This many dry, flawless whole pipes of length 8 in the store, 9 at most. */
-    private static PipeMoulds withWhole(int pipes) {
-        PipeMoulds x = works(pipes, 8, 9);
-        x.pass(1);
-        x.place(0, -1);
-        x.pass(5);
-        x.pack(0, 1, pipes);
-        x.fire(9);
-        return x;
+        end();
     }
 
     // ---- the promises

@@ -9,69 +9,69 @@ import java.util.List;
  */
 public final class PipeMouldsBoundsTest extends Checks {
     public static void main(String[] args) {
-        atMost512Calls();
-        storesAtFirst();
-        theLastClayCoalAndCoin();
-        mouldsAreNumberedFrom0();
-        wornBy0AtFirstTo100();
-        lengthOver8RoundedUp();
-        aTenthOfTheWearCut();
-        nineLessTheStopper();
-        oneMakerAtAMould();
-        tenBatchesAtMost();
-        thoseBehindAreOneLess();
-        wetBy0To6();
-        sixSaggarsEmptyAtFirst();
-        dayByTheRemainderOf7();
-        driesByOneAtFirst();
-        eightOrdersInTheirOrder();
+        runAll(
+                PipeMouldsBoundsTest::atMost512Calls,
+                PipeMouldsBoundsTest::storesAtFirst,
+                PipeMouldsBoundsTest::theLastClayCoalAndCoin,
+                PipeMouldsBoundsTest::mouldsAreNumberedFrom0,
+                PipeMouldsBoundsTest::wornBy0AtFirstTo100,
+                PipeMouldsBoundsTest::lengthOver8RoundedUp,
+                PipeMouldsBoundsTest::aTenthOfTheWearCut,
+                PipeMouldsBoundsTest::nineLessTheStopper,
+                PipeMouldsBoundsTest::oneMakerAtAMould,
+                PipeMouldsBoundsTest::tenBatchesAtMost,
+                PipeMouldsBoundsTest::thoseBehindAreOneLess,
+                PipeMouldsBoundsTest::wetBy0To6,
+                PipeMouldsBoundsTest::sixSaggarsEmptyAtFirst,
+                PipeMouldsBoundsTest::dayByTheRemainderOf7,
+                PipeMouldsBoundsTest::driesByOneAtFirst,
+                PipeMouldsBoundsTest::eightOrdersInTheirOrder,
 
-        fewerThan10BatchesThen();
-        asManyAsTheSkill();
-        asFarAsThereIsClay();
-        ifThatIsOneOrMore();
-        theFlawAheadOfWhatFollows();
-        aQuarterRoundedUp();
-        wornByAtMost100();
-        aGreaterTenthLoosens();
-        stopperAtLeast0();
-        batchesOfThisDayToo();
-        lessWetAtLeast0();
-        asManyWholePipesAsItIsFor();
-        oneBehindTheOther();
-        lostWithLessThan0();
-        keepsNoPipesBack();
-        theDayIsOneGreater();
+                PipeMouldsBoundsTest::fewerThan10BatchesThen,
+                PipeMouldsBoundsTest::asManyAsTheSkill,
+                PipeMouldsBoundsTest::asFarAsThereIsClay,
+                PipeMouldsBoundsTest::ifThatIsOneOrMore,
+                PipeMouldsBoundsTest::theFlawAheadOfWhatFollows,
+                PipeMouldsBoundsTest::aQuarterRoundedUp,
+                PipeMouldsBoundsTest::wornByAtMost100,
+                PipeMouldsBoundsTest::aGreaterTenthLoosens,
+                PipeMouldsBoundsTest::stopperAtLeast0,
+                PipeMouldsBoundsTest::batchesOfThisDayToo,
+                PipeMouldsBoundsTest::lessWetAtLeast0,
+                PipeMouldsBoundsTest::asManyWholePipesAsItIsFor,
+                PipeMouldsBoundsTest::oneBehindTheOther,
+                PipeMouldsBoundsTest::lostWithLessThan0,
+                PipeMouldsBoundsTest::keepsNoPipesBack,
+                PipeMouldsBoundsTest::theDayIsOneGreater,
 
-        eightForEachWet();
-        twoForEachFlaw();
-        halfOfTheDifference();
-        fiveInSaggars0And5();
-        atMost100();
-        roundedUpForEachSaggarByItself();
-        othersComeIntoTheStore();
-        coalsAreBurntWhateverBreaks();
+                PipeMouldsBoundsTest::eightForEachWet,
+                PipeMouldsBoundsTest::twoForEachFlaw,
+                PipeMouldsBoundsTest::halfOfTheDifference,
+                PipeMouldsBoundsTest::fiveInSaggars0And5,
+                PipeMouldsBoundsTest::atMost100,
+                PipeMouldsBoundsTest::roundedUpForEachSaggarByItself,
+                PipeMouldsBoundsTest::othersComeIntoTheStore,
+                PipeMouldsBoundsTest::coalsAreBurntWhateverBreaks,
 
-        aNewObject();
-        refitFor2Coins();
-        placeAnswersMinus1ForNone();
-        aCoinForEach4Pounds();
-        noneLeftGoes();
-        allSaggarsAreEmptyThen();
-        all0ForAnEmptyOne();
-        pipesThatAreMadeInThem();
-        breaksHoweverManyCoals();
-        adviseTheLeastOfSeveral();
-        adviseMinus1IfAllAreEmpty();
-        adviseHoweverManyCoals();
-        readyOneForTheComingDay();
-        readyMinus1IfItIsLost();
-        foreseeAsItComes();
-        theAskingChangesNothing();
-        meanIs0WithoutAny();
-        digestWrapsAround();
-        digestOfThingsAndTheirOrder();
-        end();
+                PipeMouldsBoundsTest::aNewObject,
+                PipeMouldsBoundsTest::refitFor2Coins,
+                PipeMouldsBoundsTest::placeAnswersMinus1ForNone,
+                PipeMouldsBoundsTest::aCoinForEach4Pounds,
+                PipeMouldsBoundsTest::noneLeftGoes,
+                PipeMouldsBoundsTest::allSaggarsAreEmptyThen,
+                PipeMouldsBoundsTest::all0ForAnEmptyOne,
+                PipeMouldsBoundsTest::pipesThatAreMadeInThem,
+                PipeMouldsBoundsTest::breaksHoweverManyCoals,
+                PipeMouldsBoundsTest::adviseTheLeastOfSeveral,
+                PipeMouldsBoundsTest::adviseMinus1IfAllAreEmpty,
+                PipeMouldsBoundsTest::adviseHoweverManyCoals,
+                PipeMouldsBoundsTest::readyOneForTheComingDay,
+                PipeMouldsBoundsTest::readyMinus1IfItIsLost,
+                PipeMouldsBoundsTest::foreseeAsItComes,
+                PipeMouldsBoundsTest::theAskingChangesNothing,
+                PipeMouldsBoundsTest::meanIs0WithoutAny,
+                PipeMouldsBoundsTest::digestWrapsAround,
+                PipeMouldsBoundsTest::digestOfThingsAndTheirOrder);
     }
 
     /** This many days on works that do nothing else: each day's batch is packed, each sixth day it is fired. */
@@ -970,8 +970,8 @@ public final class PipeMouldsBoundsTest extends Checks {
         due("7 alone, for the shortest", 7, () -> inSaggar(1, 9, 4, 0, 0).advise());
         due("17 alone, for the longest", 17, () -> inSaggar(1, 9, 24, 0, 0).advise());
         due("4 to 15 alike, with 1 to 11 of 9", 4, () -> inSaggar(1, 9, 9, 0, 0).advise());
-        // 12 + 10 of 9 with 2 coals, but 24 of 9 with 1.
-        due("2 is better than 1", 2, () -> inSaggar(1, 9, 4, 6, 0).advise());
+        due("1 is as good as 7: 20 of 5 is one", 1, () -> inSaggar(1, 5, 4, 0, 1).advise());
+        due("1 is worse than 2: 22 and 20 of 5", 2, () -> inSaggar(1, 5, 4, 1, 1).advise());
         for (int saggar = 0; saggar < 6; saggar++) {
             // In saggars 0 and 5 it is 5 to 11 of 9 with 4 to 10 coals.
             int want = saggar == 0 || saggar == 5 ? 4 : 7;
@@ -1076,11 +1076,24 @@ public final class PipeMouldsBoundsTest extends Checks {
         PipeMoulds y = busy();
         due("the day behind 1", y.count(0) + 1, () -> y.foresee(1, 0));
         due("the day behind 40", y.count(0) + 40, () -> y.foresee(40, 0));
+        due("stems that broke till now", y.count(5), () -> y.foresee(1, 5));
+        for (int length : new int[] {4, 24}) {
+            PipeMoulds z = inSaggar(1, 9, length, 0, 0);
+            z.fire(length == 4 ? 7 : 17);
+            z.order(length, 9, 0, 70);
+            due("coins for 9 of length " + length, 100, () -> z.foresee(1, 3));
+            due("store", 0, () -> z.foresee(1, 8));
+            due("served", 1, () -> z.foresee(1, 10));
+        }
     }
 
     /** Some of everything, with orders that will be served and lost. */
     private static PipeMoulds busy() {
-        PipeMoulds x = withWhole(9);
+        PipeMoulds x = inSaggar(0, 9, 8, 0, 0);
+        for (int day = 0; day < 7; day++) {
+            x.setDry(day, 1);
+        }
+        x.fire(9);
         x.mould(20, 5);
         x.maker(4);
         x.place(0, 0);

@@ -8,35 +8,35 @@ import java.util.TreeSet;
 /** For each promise of the document: ordinary inputs, the edges that it names, and wrong inputs. */
 public final class PipeMouldsTest extends Checks {
     public static void main(String[] args) {
-        face();
-        promise01NewObject();
-        promise02Mould();
-        promise03Refit();
-        promise04Maker();
-        promise05Place();
-        promise06Buy();
-        promise07SetDry();
-        promise08Pack();
-        promise09Fire();
-        promise10Order();
-        promise11About();
-        promise12Told();
-        promise13Batch();
-        promise14Saggar();
-        promise15Store();
-        promise16Waits();
-        promise17Count();
-        promise18PassMakers();
-        promise18PassWear();
-        promise18PassWeather();
-        promise18PassOrders();
-        promise19Breaks();
-        promise20Advise();
-        promise21Ready();
-        promise22Foresee();
-        promise23Mean();
-        promise24Digest();
-        end();
+        runAll(
+                PipeMouldsTest::face,
+                PipeMouldsTest::promise01NewObject,
+                PipeMouldsTest::promise02Mould,
+                PipeMouldsTest::promise03Refit,
+                PipeMouldsTest::promise04Maker,
+                PipeMouldsTest::promise05Place,
+                PipeMouldsTest::promise06Buy,
+                PipeMouldsTest::promise07SetDry,
+                PipeMouldsTest::promise08Pack,
+                PipeMouldsTest::promise09Fire,
+                PipeMouldsTest::promise10Order,
+                PipeMouldsTest::promise11About,
+                PipeMouldsTest::promise12Told,
+                PipeMouldsTest::promise13Batch,
+                PipeMouldsTest::promise14Saggar,
+                PipeMouldsTest::promise15Store,
+                PipeMouldsTest::promise16Waits,
+                PipeMouldsTest::promise17Count,
+                PipeMouldsTest::promise18PassMakers,
+                PipeMouldsTest::promise18PassWear,
+                PipeMouldsTest::promise18PassWeather,
+                PipeMouldsTest::promise18PassOrders,
+                PipeMouldsTest::promise19Breaks,
+                PipeMouldsTest::promise20Advise,
+                PipeMouldsTest::promise21Ready,
+                PipeMouldsTest::promise22Foresee,
+                PipeMouldsTest::promise23Mean,
+                PipeMouldsTest::promise24Digest);
     }
 
     // ---- the promises

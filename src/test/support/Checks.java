@@ -77,9 +77,16 @@ abstract class Checks {
         System.out.println(part + ": " + call + " answered " + got + ", due is " + want);
     }
 
-    /** Tells how many checks there were; ends the program with 1 if one was wrong. */
-    static void end() {
-        System.out.println(checks + " checks, " + wrong + " wrong");
+    /** Runs each test by itself, so that one that breaks off hides none behind it; ends with 1 if one was wrong. */
+    static void runAll(Runnable... tests) {
+        for (Runnable test : tests) {
+            try {
+                test.run();
+            } catch (RuntimeException e) {
+                tell("a call", "throws " + e, "an answer");
+            }
+        }
+        System.out.println(tests.length + " tests, " + checks + " checks, " + wrong + " wrong");
         if (wrong != 0) {
             System.exit(1);
         }

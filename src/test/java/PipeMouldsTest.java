@@ -2,7 +2,9 @@ import java.lang.reflect.Constructor;
 import java.lang.reflect.Field;
 import java.lang.reflect.Method;
 import java.lang.reflect.Modifier;
+import java.util.ArrayList;
 import java.util.Arrays;
+import java.util.List;
 import java.util.TreeSet;
 
 /** For each promise of the document: ordinary inputs, the edges that it names, and wrong inputs. */
@@ -10,6 +12,9 @@ public final class PipeMouldsTest extends Checks {
     public static void main(String[] args) {
         runAll(
                 PipeMouldsTest::face,
+                PipeMouldsTest::faceDeclaresItsExceptions,
+                PipeMouldsTest::classesInside,
+                PipeMouldsTest::readmeExample,
                 PipeMouldsTest::promise01NewObject,
                 PipeMouldsTest::promise02Mould,
                 PipeMouldsTest::promise03Refit,
@@ -80,6 +85,72 @@ public final class PipeMouldsTest extends Checks {
             due("parameters of " + constructor, 0, () -> constructor.getParameterCount());
         }
         due("a final class", 1, () -> Modifier.isFinal(PipeMoulds.class.getModifiers()) ? 1 : 0);
+    }
+
+    private static void faceDeclaresItsExceptions() {
+        part = "the public face, what each method throws";
+        String[] want = {"mould: ARGUMENT STATE", "refit: INDEX STATE", "maker: ARGUMENT STATE", "place: INDEX STATE",
+            "buy: INDEX ARGUMENT STATE", "setDry: INDEX ARGUMENT", "pack: INDEX ARGUMENT STATE",
+            "fire: ARGUMENT STATE", "order: ARGUMENT STATE", "about: INDEX", "told: INDEX", "batch: INDEX",
+            "saggar: INDEX", "store: INDEX", "waits: INDEX", "count: INDEX", "pass: ARGUMENT",
+            "breaks: INDEX ARGUMENT", "advise:", "ready: INDEX", "foresee: ARGUMENT INDEX", "mean:", "digest:"};
+        TreeSet<String> got = new TreeSet<>();
+        for (Method method : PipeMoulds.class.getMethods()) {
+            if (method.getDeclaringClass() != PipeMoulds.class) {
+                continue;
+            }
+            StringBuilder told = new StringBuilder(method.getName()).append(':');
+            for (Class<?> thrown : method.getExceptionTypes()) {
+                told.append(thrown == INDEX ? " INDEX" : thrown == ARGUMENT ? " ARGUMENT"
+                        : thrown == STATE ? " STATE" : " " + thrown.getName());
+            }
+            got.add(told.toString());
+        }
+        checks++;
+        if (!got.equals(new TreeSet<>(Arrays.asList(want)))) {
+            tell("the throws clauses", got.toString(), Arrays.toString(want));
+        }
+    }
+
+    private static void classesInside() {
+        part = "LANGUAGE.md, rules 1, 2, 5 and 11: the classes inside, their static fields and parameters";
+        List<Class<?>> all = new ArrayList<>(Arrays.asList(PipeMoulds.class.getDeclaredClasses()));
+        for (Class<?> inside : all) {
+            int signs = inside.getModifiers();
+            due("static " + inside, 1, () -> Modifier.isStatic(signs) ? 1 : 0);
+            due("neither public nor protected " + inside, 0,
+                    () -> Modifier.isPublic(signs) || Modifier.isProtected(signs) ? 1 : 0);
+        }
+        due("no more than 12 classes", 1, () -> all.size() < 12 ? 1 : 0);
+        all.add(PipeMoulds.class);
+        for (Class<?> each : all) {
+            int fields = 0;
+            for (Field field : each.getDeclaredFields()) {
+                int signs = field.getModifiers();
+                due("final, if static: " + field, 1, () -> !Modifier.isStatic(signs) || Modifier.isFinal(signs) ? 1 : 0);
+                fields += Modifier.isStatic(signs) ? 0 : 1;
+            }
+            int kept = fields;
+            due("no more than 20 fields in " + each, 1, () -> kept <= 20 ? 1 : 0);
+            for (Method method : each.getDeclaredMethods()) {
+                due("no more than 7 parameters of " + method, 1, () -> method.getParameterCount() <= 7 ? 1 : 0);
+            }
+        }
+    }
+
+    private static void readmeExample() {
+        part = "README.md, the example";
+        PipeMoulds works = new PipeMoulds();
+        int mould = works.mould(8, 9);
+        int maker = works.maker(5);
+        works.place(maker, mould);
+        due("order(8, 5, 10, 12)", 1, () -> works.order(8, 5, 10, 12));
+        due("pass(6)", 30, () -> works.pass(6));
+        due("pack(0, 1, 5)", 0, () -> works.pack(0, 1, 5));
+        due("fire(advise())", 5, () -> works.fire(works.advise()));
+        due("ready(0)", 1, () -> works.ready(0));
+        due("pass(1)", 5, () -> works.pass(1));
+        due("coins", 42, () -> works.count(3));
     }
 
     private static void promise01NewObject() {
